@@ -224,6 +224,8 @@ public final class ForetoldTest {
         Due.row(x, 4, 0, 0, 0, 0, 0, 0, 0, 0, 0, 0, 0, 0, 0, 0, 0, 0, 0, 0, 0, 0, 0, 0, 6, 0);
         Due.is("an ITEM that is no SAYING, at the last", Due.BAD, x.who(0, 4, 0, 12));
         Due.is("not where it ought to be", 0b110110, x.who(0, 4, 0, 11));
+        x.set(4, 22, 4);
+        Due.is("twelve SAYINGS", 0b110110, x.who(0, 4, 0, 12));
         Due.row(x, 5, -1, 0, 0, 77);
         Due.is("an ITEM below 0", Due.BAD, x.who(0, 5, 0, 1));
         Due.is("what no FACTS are fits nobody", 0, x.who(0, 5, 2, 1));
@@ -299,6 +301,8 @@ public final class ForetoldTest {
         x.say(0, 2);
         x.say(0, 3);
         Due.is("COST of these alone", 4, x.drawn(3, 1, 1));
+        Due.is("drawn(0,999999,0)", 7, x.drawn(0, 999999, 0));
+        Due.is("drawn(60,1,1) is no refusal", 1, x.drawn(60, 1, 1) >= 4 ? 1 : 0);
         Due.is("drawn(-1,1,0)", Due.BAD, x.drawn(-1, 1, 0));
         Due.is("drawn(61,1,0)", Due.BAD, x.drawn(61, 1, 0));
         Due.is("drawn(1,0,0)", Due.BAD, x.drawn(1, 0, 0));

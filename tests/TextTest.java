@@ -68,6 +68,8 @@ public final class TextTest {
         faulty("c1,1,1,", 6, 1);
         faulty("c1,1,1;", 7, 1);
         faulty("c1,1,1\u00e9", 6, 1);
+        faulty("c4,1\u00e91,3;l;", 4, 1);
+        faulty("c4,1 ,1;l;", 4, 1);
         sound("c6,63,9;l;", 1);
         sound("c06,00,01;q;", 1);
     }
@@ -141,6 +143,11 @@ public final class TextTest {
         x.say(1, 3);
         x.strike(0, 1);
         Due.is("count(6)", 4, x.count(6));
+        Due.is("court() of the same", 2, Due.tell(x, "c3,6,2;m0,1;x1,2;l;k;"));
+        x.say(0, 3);
+        x.say(1, 5);
+        Due.is("cell(0)", 1, x.cell(0));
+        Due.is("cell(1)", 1, x.cell(1));
         Due.is("court() anew", 2, Due.tell(x, "c2,3,7;x1,0;w;b;"));
         Due.is("stand(0)", 3, x.stand(0));
         Due.is("stand(1)", 0, x.stand(1));
