@@ -665,8 +665,8 @@ public final class BelievedWords {
             people++;
         }
 
-        boolean hasKind(int kind, int among) {
-            for (int person = 0; person < among; person++) {
+        boolean hasKind(int kind) {
+            for (int person = 0; person < people; person++) {
                 if (kinds[person] == kind) {
                     return true;
                 }
@@ -911,193 +911,168 @@ public final class BelievedWords {
     }
 
     /**
-     * Ways of SAYINGS, each CARRIED OUT. A node is what is SO and, behind it, of what was SAID;
-     * the latter matters to children alone, and is left out where there are none.
+     * Ways of SAYINGS, each CARRIED OUT. A node is what is SO and, behind it, of what was SAID; the latter
+     * is left out where it does not matter.
      */
     private static final class Search {
         private static final int CODE = 20;
         private static final int NEVER = 1 << MOST_FACTS;
-        private static final int MOST_CHANGES = MOST_FACTS << 2 * MOST_FACTS;
+        private static final int MOST_LEVELS = MOST_FACTS << 2 * MOST_FACTS;
 
-        private final int[] speakers = new int[MOST_PEOPLE];
+        private final int[] movers = new int[MOST_PEOPLE];
         private int[] walks = new int[0];
-        private int[] firsts = new int[0];
         private int[] costs = new int[0];
-        private int[] line = new int[0];
+        private int[] firsts = new int[0];
+        private int moving;
         private int facts;
         private int nodes;
-        private int speaking;
         private boolean minding;
+        private boolean byCost;
         private int walk;
-        private int reached;
         private int farthest;
         private int wantedSo;
         private int wantedNot;
+        private int first;
 
         int fewest(Court court, int so, int not, int what) {
-            begin(court, so, not);
+            begin(court.law, so, not, false);
             if (isMet(court.now.so)) {
                 return what == 0 ? 0 : NONE;
             }
-            reach(nodeOf(court.now.so, court.now.saidOf), NONE);
-            int from = 0;
-            for (int length = 1; length <= nodes && from < reached; length++) {
-                int end = reached;
-                for (; from < end; from++) {
-                    int met = spread(court, line[from], length == 1);
-                    if (met != NONE) {
-                        return what == 0 ? length : firsts[met];
-                    }
-                }
+            int sayings = explore(court);
+            return what == 0 ? sayings : first;
+        }
+
+        /** Costs are reckoned in FACTS that change: the PRICE is one for all. */
+        int leastCost(Court court, int so, int not, int what) {
+            begin(court.law, so, not, true);
+            if (isMet(court.now.so)) {
+                return what == 0 ? 0 : NONE;
             }
-            return NONE;
+            int changes = explore(court);
+            if (changes == NONE) {
+                return NONE;
+            }
+            return what == 0 ? changes * court.law.price : first;
         }
 
         int reachable(Court court, int what) {
-            begin(court, NEVER, 0);
-            reach(nodeOf(court.now.so, court.now.saidOf), NONE);
-            for (int from = 0; from < reached && from < nodes; from++) {
-                spread(court, line[from], false);
-            }
-            long states = 0;
-            int bits = 0;
-            for (int i = 0; i < reached; i++) {
-                int so = soOf(line[i]);
-                states |= 1L << so;
-                bits |= so;
+            begin(court.law, NEVER, 0, false);
+            explore(court);
+            int bits = court.now.so;
+            long states = 1L << court.now.so;
+            for (int node = 0; node < nodes; node++) {
+                if (walks[node] == walk) {
+                    bits |= soOf(node);
+                    states |= 1L << soOf(node);
+                }
             }
             return what == 0 ? bits : Long.bitCount(states);
         }
 
-        /**
-         * Costs are reckoned in FACTS that change. What costs nothing leaves what is SO, and only adds to
-         * what was SAID, so it leads to a higher node: one sweep upwards ends a level.
-         */
-        int leastCost(Court court, int so, int not, int what) {
-            begin(court, so, not);
-            if (isMet(court.now.so)) {
-                return what == 0 ? 0 : NONE;
-            }
-            lead(court, nodeOf(court.now.so, court.now.saidOf), 0, NONE);
-            for (int level = 0; level <= farthest && level <= MOST_CHANGES; level++) {
-                int first = sweep(court, level);
-                if (first != NONE) {
-                    return what == 0 ? level * court.law.price : first;
-                }
-            }
-            return NONE;
-        }
-
-        private void begin(Court court, int so, int not) {
-            facts = court.law.facts;
-            minding = court.law.hasKind(CHILD, court.law.people);
+        private void begin(Law law, int so, int not, boolean byCost) {
+            facts = law.facts;
+            gatherMovers(law);
             nodes = 1 << (minding ? 2 * facts : facts);
             if (walks.length < nodes) {
                 walks = new int[nodes];
-                firsts = new int[nodes];
                 costs = new int[nodes];
-                line = new int[nodes];
+                firsts = new int[nodes];
             }
-            gatherSpeakers(court.law);
             walk++;
-            reached = 0;
             farthest = 0;
+            first = NONE;
             wantedSo = so;
             wantedNot = not;
+            this.byCost = byCost;
         }
 
-        /** The first of a KIND can say all that others of it can, by a lower number. */
-        private void gatherSpeakers(Law law) {
-            speaking = 0;
-            for (int person = 0; person < law.people; person++) {
-                if (!law.hasKind(law.kinds[person], person)) {
-                    speakers[speaking] = person;
-                    speaking++;
+        /**
+         * Behind the first SAYING the RULES have looked: a quiet one changes nothing then. A wit can make
+         * all so that a liar can, and either of them all that a child can, whatever was SAID.
+         */
+        private void gatherMovers(Law law) {
+            boolean free = law.hasKind(LIAR) || law.hasKind(WIT);
+            minding = !free && law.hasKind(CHILD);
+            moving = 0;
+            if (free || minding) {
+                movers[moving] = free ? LIAR : CHILD;
+                moving++;
+            }
+            if (law.hasKind(BRAGGART)) {
+                movers[moving] = BRAGGART;
+                moving++;
+            }
+        }
+
+        /** The level at which it is met first, with the first SAYING by which it is; NONE: there is none. */
+        private int explore(Court court) {
+            sayFirst(court);
+            for (int level = 0; level <= farthest && level <= MOST_LEVELS; level++) {
+                for (int node = 0; node < nodes; node++) {
+                    if (walks[node] != walk || costs[node] != level) {
+                        continue;
+                    }
+                    if (!isMet(soOf(node))) {
+                        lead(court, node);
+                    } else if (first == NONE || firsts[node] < first) {
+                        first = firsts[node];
+                    }
+                }
+                if (first != NONE) {
+                    return level;
                 }
             }
+            return NONE;
         }
 
         private boolean isMet(int so) {
             return (so & wantedSo) == wantedSo && (so & wantedNot) == 0;
         }
 
-        private int nodeOf(int so, int saidOf) {
-            return minding ? saidOf << facts | so : so;
-        }
-
         private int soOf(int node) {
             return node & (1 << facts) - 1;
         }
 
-        private void reach(int node, int first) {
-            walks[node] = walk;
-            firsts[node] = first;
-            line[reached] = node;
-            reached++;
-        }
-
-        /** The node that is met first, if one is; else NONE. */
-        private int spread(Court court, int node, boolean atStart) {
-            int so = soOf(node);
-            int saidOf = node >> facts;
-            for (int k = 0; k < speaking; k++) {
-                int person = speakers[k];
+        private void sayFirst(Court court) {
+            int so = court.now.so;
+            int saidOf = court.now.saidOf;
+            for (int person = 0; person < court.law.people; person++) {
                 for (int saying = 0; saying < 2 * facts; saying++) {
                     int next = court.outcome(court.law.kinds[person], saying, so, saidOf);
-                    int there = next == NONE ? NONE : nodeOf(next, saidOf | Court.factOf(saying));
-                    if (there == NONE || walks[there] == walk) {
-                        continue;
-                    }
-                    reach(there, atStart ? CODE * person + saying : firsts[node]);
-                    if (isMet(next)) {
-                        return there;
+                    if (next != NONE) {
+                        enter(next, saidOf | Court.factOf(saying), stepOf(so, next), CODE * person + saying);
                     }
                 }
             }
-            return NONE;
         }
 
-        /** The first SAYING by which a level meets what is wanted; NONE: it does not. */
-        private int sweep(Court court, int level) {
-            int first = NONE;
-            for (int node = 0; node < nodes; node++) {
-                if (walks[node] != walk || costs[node] != level) {
-                    continue;
-                }
-                if (!isMet(soOf(node))) {
-                    lead(court, node, level, firsts[node]);
-                } else if (first == NONE || firsts[node] < first) {
-                    first = firsts[node];
-                }
-            }
-            return first;
-        }
-
-        /** Tells all nodes that are one SAYING behind; first is NONE where this SAYING is the first. */
-        private void lead(Court court, int node, int level, int first) {
+        /** What changes nothing leads nowhere: at most a child is bound by it. */
+        private void lead(Court court, int node) {
             int so = soOf(node);
             int saidOf = node >> facts;
-            for (int k = 0; k < speaking; k++) {
-                int person = speakers[k];
+            for (int k = 0; k < moving; k++) {
                 for (int saying = 0; saying < 2 * facts; saying++) {
-                    int next = court.outcome(court.law.kinds[person], saying, so, saidOf);
-                    if (next == NONE) {
-                        continue;
+                    int next = court.outcome(movers[k], saying, so, saidOf);
+                    if (next != NONE && next != so) {
+                        enter(next, saidOf | Court.factOf(saying), costs[node] + stepOf(so, next), firsts[node]);
                     }
-                    int there = nodeOf(next, saidOf | Court.factOf(saying));
-                    int cost = level + Integer.bitCount(so ^ next);
-                    better(there, cost, first == NONE ? CODE * person + saying : first);
                 }
             }
         }
 
-        private void better(int node, int cost, int first) {
-            if (walks[node] == walk && (costs[node] < cost || costs[node] == cost && firsts[node] <= first)) {
+        private int stepOf(int so, int next) {
+            return byCost ? Integer.bitCount(so ^ next) : 1;
+        }
+
+        private void enter(int so, int saidOf, int cost, int code) {
+            int node = minding ? saidOf << facts | so : so;
+            if (walks[node] == walk && (costs[node] < cost || costs[node] == cost && firsts[node] <= code)) {
                 return;
             }
             walks[node] = walk;
             costs[node] = cost;
-            firsts[node] = first;
+            firsts[node] = code;
             farthest = Math.max(farthest, cost);
         }
     }
