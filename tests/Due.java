@@ -42,6 +42,17 @@ final class Due {
         }
     }
 
+    /** An object whose item() can be asked: nothing is SO, nothing was SAID, and one liar is there. */
+    static BelievedWords reader() {
+        return told("c6,0,1;l;");
+    }
+
+    /** ITEM i of a ROW where it is 0, 1, 2, 4, 8, 16 or 32, by what the liar would have SAID; else NONE. */
+    static int item(BelievedWords x, int row, int i) {
+        int first = x.said(0, row, i, 1, 1);
+        return first < 0 ? NONE : first % 2 == 0 ? 0 : 1 << first / 2;
+    }
+
     static void end() {
         System.out.println(right + " answers as due, " + wrong + " not");
         if (wrong != 0 || right == 0) {
