@@ -8,7 +8,6 @@ public final class UnchangedTest {
         long on(BelievedWords x);
     }
 
-    private static final int VIEWS = 6;
     private static final int LEAST = Integer.MIN_VALUE, MOST = Integer.MAX_VALUE;
     private static final long ANY = Long.MIN_VALUE;
 
@@ -86,99 +85,11 @@ public final class UnchangedTest {
         }
     }
 
-    // ---- what can be seen of an object; each view of an object of its own, as most views change it
-
-    private static String view(BelievedWords x, int which) {
-        StringBuilder s = new StringBuilder();
-        switch (which) {
-            case 0: look(s, x); break;
-            case 1: lookAhead(s, x); break;
-            case 2: lookBack(s, x); break;
-            case 3: lookAtImages(s, x); break;
-            case 4: lookAtTape(s, x); break;
-            default: lookAtRows(s, x); break;
-        }
-        return s.toString();
-    }
-
-    private static void put(StringBuilder s, long answer) {
-        s.append(answer).append(' ');
-    }
-
-    private static void look(StringBuilder s, BelievedWords x) {
-        for (int i = 0; i < 8; i++) {
-            put(s, x.count(i));
-            put(s, x.stand(i));
-            put(s, x.cell(i));
-            put(s, x.kind(i));
-            put(s, x.trace(i));
-            for (int what = 0; what <= 3; what++) {
-                put(s, x.rule(i, what));
-            }
-        }
-        put(s, x.fault());
-    }
-
-    private static void lookAhead(StringBuilder s, BelievedWords x) {
-        for (int person = 0; person < 5; person++) {
-            for (int saying = 0; saying < 12; saying++) {
-                put(s, x.makes(person, saying));
-            }
-            put(s, x.idle(person));
-        }
-        for (int what = 0; what <= 1; what++) {
-            put(s, x.ever(what));
-            put(s, x.shortest(8, 2, what));
-            put(s, x.cheapest(8, 2, what));
-            put(s, x.giveUp(15, what));
-            put(s, x.drawn(60, 5, what));
-        }
-        put(s, x.order(15, 3));
-    }
-
-    private static void lookBack(StringBuilder s, BelievedWords x) {
-        for (int i = 0; i < 12; i++) {
-            put(s, x.undo());
-            for (int what = 0; what <= 3; what++) {
-                put(s, x.stand(what));
-                put(s, x.rule(what, 3));
-                put(s, x.cell(what));
-            }
-            put(s, x.makes(4, 7));
-            put(s, x.makes(0, 3));
-        }
-    }
-
-    private static void lookAtImages(StringBuilder s, BelievedWords x) {
-        put(s, x.restore(1));
-        put(s, x.restore(0));
-        look(s, x);
-        put(s, x.makes(1, 3));
-    }
-
-    private static void lookAtTape(StringBuilder s, BelievedWords x) {
-        put(s, x.feed(';'));
-        put(s, x.court());
-        look(s, x);
-    }
-
-    private static void lookAtRows(StringBuilder s, BelievedWords x) {
-        x.court();
-        Due.tell(x, "c6,0,1;l;");
-        for (int row = 0; row < 8; row++) {
-            for (int i = 0; i < 12; i++) {
-                put(s, Due.item(x, row, i));
-            }
-            put(s, x.set(row, 0, 70000));
-            put(s, x.drop(row));
-        }
-    }
-
     // ---- the comparison
 
     private static void changesNothing(String name, long due, Calls call) {
         histories++;
-        for (int which = 0; which < VIEWS; which++) {
+        for (int which = 0; which < Views.ALL; which++) {
             BelievedWords one = new BelievedWords();
             BelievedWords other = new BelievedWords();
             history.on(one);
@@ -191,8 +102,8 @@ public final class UnchangedTest {
                 boolean free = due == ANY || due >= 0;
                 Due.is(name + ": status()", free ? one.status() : found ? -1000010 - answer : status, one.status());
             }
-            String got = view(one, which);
-            String want = view(other, which);
+            String got = Views.view(one, which);
+            String want = Views.view(other, which);
             Due.is(name + " changes nothing (view " + which + ")", 1, got.equals(want) ? 1 : 0);
         }
     }
